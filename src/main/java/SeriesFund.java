@@ -54,9 +54,7 @@ public final class SeriesFund {
     private static final int BAD_NUMBER = 2;
     private static final int TOO_MANY = 3;
 
-    private final char[] text = new char[TEXT_LIMIT];
-    private int textLength = 0;
-    private final Tokens tokens = new Tokens(text);
+    private final Tokens tokens = new Tokens();
     private int parseCode = 0;
     private int parsePosition = NONE;
 
@@ -68,8 +66,6 @@ public final class SeriesFund {
     private int newest = 0;
     private int remembered = 0;
 
-    private final FundText fundText = new FundText(tokens, thought);
-    private final Script script = new Script(tokens, thought, desk);
     private final Report report = new Report();
 
     public SeriesFund() {
@@ -78,35 +74,28 @@ public final class SeriesFund {
     // ---- fund text
 
     public int appendText(int a, int b, int c, int d, int e) throws IllegalStateException {
-        if (textLength + TEXT_STEP > TEXT_LIMIT) {
+        if (tokens.held + TEXT_STEP > TEXT_LIMIT) {
             throw new IllegalStateException("the text buffer is full");
         }
-        putFour(a);
-        putFour(b);
-        putFour(c);
-        putFour(d);
-        putFour(e);
-        return textLength;
-    }
-
-    private void putFour(int four) {
-        for (int shift = 24; shift >= 0 && textLength < TEXT_LIMIT; shift -= 8) {
-            text[textLength] = (char) (four >>> shift & 255);
-            textLength++;
-        }
+        tokens.putFour(a);
+        tokens.putFour(b);
+        tokens.putFour(c);
+        tokens.putFour(d);
+        tokens.putFour(e);
+        return tokens.held;
     }
 
     public int truncateText(int length) throws IllegalArgumentException {
-        if (length < 0 || length > textLength) {
+        if (length < 0 || length > tokens.held) {
             throw new IllegalArgumentException("no such length");
         }
-        textLength = length;
-        return textLength;
+        tokens.held = length;
+        return length;
     }
 
     public int parseFund() {
-        tokens.restart(textLength);
-        textLength = 0;
+        tokens.takeBuffer();
+        FundText fundText = new FundText(tokens, thought);
         if (!fundText.readAll()) {
             parseCode = fundText.code;
             parsePosition = tokens.start;
@@ -200,9 +189,9 @@ public final class SeriesFund {
 
     /** Runs on the book of thoughts, so that a wrong text leaves the fund as it was. */
     public int runScript() {
-        tokens.restart(textLength);
-        textLength = 0;
+        tokens.takeBuffer();
         thought.copyFrom(book);
+        Script script = new Script(tokens, thought, desk);
         int operations = 0;
         tokens.advance();
         while (tokens.kind != Tokens.END && operations < TEXT_LIMIT) {
@@ -1317,7 +1306,7 @@ public final class SeriesFund {
 
     // ---- texts
 
-    /** The tokens of a text, one at a time. */
+    /** The text buffer, and the tokens of the text that was in it, one at a time. */
     private static final class Tokens {
         static final int END = 0;
         static final int WORD = 1;
@@ -1326,7 +1315,8 @@ public final class SeriesFund {
         static final int BAD = 4;
         private static final int NUMBER_LENGTH = 7;
 
-        private final char[] text;
+        private final char[] text = new char[TEXT_LIMIT];
+        int held = 0;
         private int length = 0;
         private int end = 0;
         int start = 0;
@@ -1334,12 +1324,17 @@ public final class SeriesFund {
         /** The number; NONE, which is in no range, if it has too many digits. */
         int value = NONE;
 
-        Tokens(char[] text) {
-            this.text = text;
+        void putFour(int four) {
+            for (int shift = 24; shift >= 0 && held < TEXT_LIMIT; shift -= 8) {
+                text[held] = (char) (four >>> shift & 255);
+                held++;
+            }
         }
 
-        void restart(int textLength) {
-            length = Math.min(textLength, text.length);
+        /** Begins to read what the buffer holds; the buffer is empty from now on. */
+        void takeBuffer() {
+            length = held;
+            held = 0;
             start = 0;
             end = 0;
             kind = END;
