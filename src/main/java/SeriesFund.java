@@ -788,16 +788,15 @@ public final class SeriesFund {
         }
 
         /**
-         * More than twice what truncation can change in the pay for all units of an investor: for the k-th
-         * lot at most 5k + 5 cents, and one unit of the price in the amount that is due.
+         * At least twice what truncation can change in the pay for all units of an investor. A lot leaves
+         * less than 2 cents in its series, which change what the later lots pay by no more than these; with
+         * the divisions of its own that is less than 9 cents a lot, and a unit of the price in what is due.
          */
         long truncationOf(int investor) {
             long sum = 0;
-            long cents = 5;
             for (int i = 0; i < lotCount; i++) {
                 if (lots[i].investor == investor) {
-                    cents += 5;
-                    sum += cents + lots[i].units * PERFORMANCE_FEE_LIMIT / 100 / PRICE_SCALE + 1;
+                    sum += 10 + lots[i].units * PERFORMANCE_FEE_LIMIT / 100 / PRICE_SCALE;
                 }
             }
             return 2 * sum;

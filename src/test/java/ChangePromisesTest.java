@@ -133,8 +133,7 @@ final class ChangePromisesTest {
         T.due("its number is not used again", x.openSeries(0) + " " + x.openSeries(5), "1 6");
         SeriesFund y = Tester.fund("fund series 0 0 100;investors 1;");
         for (int i = 0; i < 4; i++) {
-            Tester.script(y, "subscribe 0 50;subscribe 0 50;subscribe 0 50;subscribe 0 50;subscribe 0 50;"
-                    + "subscribe 0 50;subscribe 0 50;subscribe 0 50;subscribe 0 50;subscribe 0 50;subscribe 0 70;deal;");
+            Tester.script(y, "subscribe 0 50;".repeat(10) + "subscribe 0 70;deal;");
         }
         T.due("40 lots", y.count(7) + " " + y.count(8), "40 4");
         T.due("no lot more", y.deal(), 0);
@@ -246,7 +245,8 @@ final class ChangePromisesTest {
         x.crystallize();
         long has = x.unitsOf(1);
         T.due("fewer units than are waiting", has < 1000, true);
-        T.due("wouldRedeem", x.wouldRedeem(0) + " " + x.wouldRedeem(1), Math.min(600, has) + " " + (has - Math.min(600, has)));
+        long first = Math.min(600, has);
+        T.due("wouldRedeem", x.wouldRedeem(0) + " " + x.wouldRedeem(1), first + " " + (has - first));
         T.due("both are carried out", x.deal() + " " + x.unitsOf(1) + " " + x.count(8), "2 0 0");
         SeriesFund y = Tester.fund("fund equal 0 50 100;investors 2;subscribe 0 100000;");
         y.earn(-9000);

@@ -43,7 +43,8 @@ final class FaceTest {
         Constructor<?>[] made = SeriesFund.class.getDeclaredConstructors();
         T.due("constructors", made.length + " " + made[0].toGenericString(), "1 public SeriesFund()");
         for (Field field : SeriesFund.class.getDeclaredFields()) {
-            T.due("field " + field.getName(), Modifier.isPrivate(field.getModifiers()), !field.getName().equals("NONE"));
+            boolean constant = field.getName().equals("NONE");
+            T.due("field " + field.getName(), Modifier.isPrivate(field.getModifiers()), !constant);
         }
         for (Class<?> inside : SeriesFund.class.getDeclaredClasses()) {
             T.due("class " + inside.getName(), Modifier.isStatic(inside.getModifiers()), true);

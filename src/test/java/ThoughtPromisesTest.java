@@ -32,7 +32,8 @@ final class ThoughtPromisesTest {
         SeriesFund x = Tester.fund("fund series 0 50 100;investors 1;subscribe 0 17;subscribe 0 26;");
         x.redeem(0, 2);
         x.redeem(0, 1);
-        // 43 cents, 3 units, fee 6. The first one alone: base 37 / 3, then of 29 cents, fee 4: 25 / 2. The other: 37 / 3
+        // 43 cents, 3 units, fee 6. The first one alone: base 37 / 3, then of 29 cents, fee 4: 25 / 2; the
+        // other one: 37 / 3
         T.due("each one alone, lot by lot", x.requestedValue(), 12 + 12 + 12);
         SeriesFund y = Tester.fund("fund equal 0 20 100;investors 2;subscribe 0 1000000;");
         y.earn(5000);
@@ -156,7 +157,8 @@ final class ThoughtPromisesTest {
         T.due("9 cents", z.seriesValue(0, 0) + " " + z.breakEven(0), "9 1112");
         SeriesFund u = Tester.fund("fund series 0 20 100;investors 1;subscribe 0 20015;");
         u.earn(-5001);
-        T.due("10006 cents, and with the greatest rate the mark", u.seriesValue(0, 0) + " " + u.breakEven(0), "10006 9999");
+        T.due("10006 cents come to the mark with the greatest rate", u.seriesValue(0, 0) + " " + u.breakEven(0),
+                "10006 9999");
         z.earn(-5000);
         T.due("5 cents", z.seriesValue(0, 0) + " " + Tester.answer(() -> z.breakEven(0)),
                 "5 throws.NoSuchElementException");
