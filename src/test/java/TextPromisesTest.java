@@ -98,7 +98,9 @@ final class TextPromisesTest {
         T.due("twelve subscriptions", Tester.parse(x, twelve.toString()), 12);
         T.due("lots of them", x.count(7), 12);
         T.due("a new fund starts anew", x.account(2), 12 * 10 + 66);
-        Tester.script(x, "pass 9;gain 900;redeem 1 5;deal;subscribe 0 7;crystallize;");
+        Tester.parse(x, "fund series 9999 50 50;investors 2;subscribe 0 500000;");
+        Tester.script(x, "pass 9;gain 900;redeem 0 5;deal;subscribe 0 7;crystallize;");
+        T.due("days and fees", x.count(5) + " " + (x.account(0) > 0) + " " + (x.account(3) > 0), "9 true true");
         x.wouldCrystallize();
         T.due("after days and fees, too", Tester.parse(x, "fund equal 3 2 1;investors 1;subscribe 0 10;"), 1);
         T.due("state", Tester.stateOf(x), "1 1 3 2 1 0 1 1 0 1\n0 0 10 0 0 0\n"
