@@ -488,16 +488,16 @@ public final class SeriesFund {
     }
 
     /**
-     * A rate below which no rate reaches the value. What an investor is paid rises with the rate but for
-     * cents of truncation, so a rate that stays below the value by more than these rules out all lower ones.
+     * A rate below which no rate reaches the value. The pay rises with the rate but for small falls, so a rate
+     * that stays below the value by more than these rules out all lower ones.
      */
     private int firstRateInReach(int investor, long value) {
-        long slack = book.truncationOf(investor);
+        long fall = book.fallOfPay(investor);
         int low = LEAST_RATE;
         int high = GREATEST_RATE + 1;
         for (int step = 0; step < SEARCH_STEPS && low < high; step++) {
             int middle = Math.floorDiv(low + high, 2);
-            if (desk.payAfterRate(book, investor, middle) + slack < value) {
+            if (desk.payAfterRate(book, investor, middle) + fall < value) {
                 low = middle + 1;
             } else {
                 high = middle;
@@ -788,18 +788,23 @@ public final class SeriesFund {
         }
 
         /**
-         * At least twice what truncation can change in the pay for all units of an investor. A lot leaves
-         * less than 2 cents in its series, which change what the later lots pay by no more than these; with
-         * the divisions of its own that is less than 9 cents a lot, and a unit of the price in what is due.
+         * By how much the pay for all units of an investor can fall at most while the rate rises. What a lot
+         * takes out of its series never falls; only what is due on it can rise faster for a moment: by a unit
+         * of the price, and by the cents that the divisions cut off.
          */
-        long truncationOf(int investor) {
+        long fallOfPay(int investor) {
             long sum = 0;
             for (int i = 0; i < lotCount; i++) {
-                if (lots[i].investor == investor) {
-                    sum += 10 + lots[i].units * PERFORMANCE_FEE_LIMIT / 100 / PRICE_SCALE;
+                if (lots[i].investor == investor && canBeDue(lots[i])) {
+                    sum += 5 + lots[i].units * performanceFee / 100 / PRICE_SCALE;
                 }
             }
-            return 2 * sum;
+            return sum;
+        }
+
+        private boolean canBeDue(Lot lot) {
+            int place = placeOfSeries(lot.series);
+            return method == EQUALIZATION && place != NONE && lot.entryPrice < series[place].mark;
         }
 
         // -- series and lots
