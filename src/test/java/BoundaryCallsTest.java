@@ -28,6 +28,7 @@ final class BoundaryCallsTest {
         undoBringsDaysBack();
         undoOfTenChanges();
         refusedCallsKeepWhatCanBeUndone();
+        undoLeavesTextReportAndError();
         aNewFund();
         T.end();
     }
@@ -521,6 +522,27 @@ final class BoundaryCallsTest {
             // runScript() found an empty buffer once, which is a change of its own
             T.due("undo()", x.undo() + " " + x.count(4), i + " " + (i + 1));
         }
+    }
+
+    private static void undoLeavesTextReportAndError() {
+        SeriesFund x = fund("subscribe 0 1000;");
+        Tester.parse(x, "fund series 0 51 1;");
+        int length = x.writeReport();
+        x.earn(100);
+        Tester.put(x, "pass 3;deal;");
+        x.deal();
+        x.subscribe(0, 5);
+        T.due("undo()", x.undo() + " " + x.undo() + " " + x.undo(), "2 1 0");
+        T.due("error and report", x.errorCode() + " " + x.errorPosition() + " " + x.reportByte(length - 1), "2 14 10");
+        T.due("the text", x.truncateText(12) + " " + x.runScript() + " " + x.count(5), "12 2 3");
+        Tester.put(x, "deal;");
+        x.undo();
+        T.state("undo() of nothing", x::undo);
+        T.due("the text stays then, too", x.truncateText(5) + " " + x.runScript(), "5 1");
+        Tester.put(x, "deal;");
+        T.argument("a wrong call", () -> x.truncateText(6));
+        T.argument("another one", () -> x.setGate(0));
+        T.due("the text stays then, too", x.runScript() + " " + x.runScript(), "1 0");
     }
 
     private static void aNewFund() {
